@@ -69,6 +69,11 @@ public final class ActsTest {
         y.copy(0, 1);
         Check.due("P12 an error is copied on", y.page(4, 1), 2);
 
+        for (int seed = 0; seed < 2000000000; seed += 9000001) {
+            drawDue(seed);
+        }
+        shadeOfCopies();
+
         DimBooks z = Check.open("line 1 0;line 1 9;reader copyist 5;reader silent 5;error 0;");
         z.copy(0, 0);
         for (int p = 3; p < 40; p++) {
@@ -78,6 +83,37 @@ public final class ActsTest {
         refused(z, "P12 full", z.copy(0, 39), Check.FULL, full);
         refused(z, "P12 gone ahead of full", z.copy(0, 1), Check.NOT, full);
         refused(z, "P12 no copyist ahead of full", z.copy(1, 39), Check.NOT, full);
+    }
+
+    /** The draw of 100 is below E, or it is E: an error, or none. */
+    private static void drawDue(int seed) {
+        long next = (seed * 1103515245L + 12345L) % 2147483648L;
+        int drawn = (int) (next / 65536 % 100);
+        for (int e = drawn; e <= drawn + 1; e++) {
+            DimBooks x = Check.open("line 1 0;reader copyist 5;error " + e + ";");
+            x.seed(seed);
+            x.copy(0, 0);
+            Check.due("P12 draw " + drawn + " and E " + e, x.page(1, 1), e > drawn ? 2 : 0);
+            x.seed(seed);
+            x.write(0, 0);
+            Check.due("P13 draw " + drawn + " and E " + e, x.page(2, 1), e > drawn ? 3 : 0);
+        }
+    }
+
+    /** A page that comes where another one was, ahead of going back, has nothing of it. */
+    private static void shadeOfCopies() {
+        DimBooks x = Check.open("line 1 0;reader copyist 5;reader thief 6;error 0;");
+        x.keep(0);
+        x.copy(0, 0);
+        x.read(1, 1);
+        x.goBack(0);
+        Check.due("P12 the number again", x.copy(0, 0), 1);
+        Check.due("P12 its shade", x.page(1, 2), 0);
+        x.read(1, 1);
+        x.goBack(0);
+        x.read(0, 0);
+        Check.due("P13 the number again", x.write(0, 0), 1);
+        Check.due("P13 its shade", x.page(1, 2), 0);
     }
 
     private static void write() {
@@ -124,7 +160,6 @@ public final class ActsTest {
         z.copy(0, 0);
         z.read(0, 1);
         z.seed(0);
-        Check.feed(z, "");
         Check.due("P13 knowing an error", z.knows(0, 0, 0), 2);
         Check.due("P13 another error", z.write(0, 0), 2);
         Check.due("P13 its number", z.page(2, 1), 3);
@@ -257,6 +292,8 @@ public final class ActsTest {
 
     private static void where() {
         DimBooks x = Check.open("line 1 8;line 2 0;reader copyist 3;reader thief 3;error 0;");
+        DimBooks y = Check.open("line 1 0;");
+        Check.due("P17 page 0", y.where(0), 0);
         x.read(0, 0);
         x.write(0, 0);
         x.write(0, 0);

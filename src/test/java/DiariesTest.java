@@ -96,6 +96,24 @@ public final class DiariesTest {
         Check.due("P33 an image stays", x.goBack(1), 1);
         Check.same("P33 an image is not changed by what is done later", Check.sight(x), early);
 
+        // Two images that went apart: each has its own readings.
+        x.keep(0);
+        x.dusk(1);
+        x.read(0, 0);
+        x.read(1, 0);
+        x.keep(1);
+        String one = Check.sight(x);
+        x.goBack(0);
+        x.dusk(2);
+        x.copy(0, 2);
+        x.read(2, 0);
+        String other = Check.sight(x);
+        x.keep(0);
+        x.goBack(1);
+        Check.same("P33 the one", Check.sight(x), one);
+        x.goBack(0);
+        Check.same("P33 the other", Check.sight(x), other);
+
         // Requests, the diary and the text are not of an image.
         x.request(0, 0, 7);
         x.note(3);
@@ -110,6 +128,5 @@ public final class DiariesTest {
         x.dusk(9);
         x.goBack(1);
         Check.due("P32 kept anew", x.told(7), day);
-        Check.due("P33 whence goes back too", x.whence(0, 40), 0);
     }
 }

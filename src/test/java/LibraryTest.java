@@ -6,6 +6,7 @@ public final class LibraryTest {
         faults();
         faultsByPlace();
         library();
+        libraryAnew();
         told();
         line();
         vote();
@@ -85,6 +86,13 @@ public final class LibraryTest {
         soundDue("error100;line0 0;", 1);
         faultDue("lines 1 2;", 1, 0);
         faultDue("  lin 1 2;", 1, 2);
+        faultDue("mine 1 2;", 1, 0);
+        faultDue("linez 1 2;", 1, 0);
+        faultDue("linea 1 2;", 1, 0);
+        faultDue("line{ 1 2;", 1, 4);
+        faultDue("line` 1 2;", 1, 4);
+        faultDue("line :1 2;", 1, 5);
+        faultDue("line /1 2;", 1, 5);
         faultDue("Line 1 2;", 1, 0);
         faultDue("linE 1 2;", 1, 0);
         faultDue("lineE 1 2;", 1, 4);
@@ -122,6 +130,8 @@ public final class LibraryTest {
         faultDue("line 100x", 2, 5);
         faultDue("line 1 10;", 2, 7);
         faultDue("reader aloud 00;", 2, 13);
+        faultDue("reader aloud 100;", 2, 13);
+        faultDue("line 100 0;", 2, 5);
         faultDue("error 101;", 2, 6);
         faultDue("error 0;error 0;", 3, 8);
         faultDue("error 0; error", 3, 9);
@@ -180,6 +190,28 @@ public final class LibraryTest {
         Check.due("P3 again", x.library(), 2);
         Check.due("P3 nobody knows", x.knows(0, 0, 0), Check.NONE);
         Check.due("P3 E untold", x.told(8), 10);
+    }
+
+    /** Nothing of the pages, hearts and looks of one library is left in the next. */
+    private static void libraryAnew() {
+        DimBooks x = Check.open("line 1 0;reader copyist 9;reader aloud 9;error 100;");
+        x.copy(0, 0);
+        x.copy(0, 1);
+        x.read(1, 2);
+        x.read(1, 1);
+        x.where(0);
+        Check.feed(x, "line 1 1;line 2 2;line 3 9;reader silent 5;reader copyist 9;error 0;");
+        Check.due("P3 a second library", x.library(), 3);
+        for (int p = 0; p < 3; p++) {
+            Check.due("P3 its line", x.page(p, 0), p);
+            Check.due("P3 its variant", x.page(p, 1), 0);
+            Check.due("P3 its shade", x.page(p, 2), p == 2 ? 9 : p + 1);
+            Check.due("P3 never read", x.page(p, 3), 0);
+            Check.due("P3 nobody knows it", x.line(p, 3), 0);
+            Check.due("P3 its entry", x.line(p, 5), 0);
+        }
+        Check.due("P3 kept", x.told(9), 2);
+        Check.due("P3 nobody brought an error in", x.whence(1, 2), 0);
     }
 
     /** The byte of the latest fault is the one thing that a faulty text may change. */

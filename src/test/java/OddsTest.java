@@ -117,6 +117,10 @@ public final class OddsTest {
         Check.due("P25 day -1", x.claim(0, 0, -1), Check.OUTSIDE);
         Check.due("P25 day 10000", x.claim(0, 0, 10000), Check.OUTSIDE);
 
+        DimBooks z = Check.open("line 1 0;reader copyist 9;");
+        z.read(0, 0);
+        Check.due("P25 the first reading of all", z.claim(0, 0, 0), 0);
+
         // What is read beyond the 300 readings proves nothing.
         DimBooks y = Check.open("line 1 0;reader copyist 99;reader silent 9;error 0;");
         for (int p = 0; y.told(4) < 300; p++) {
@@ -162,6 +166,20 @@ public final class OddsTest {
         y.copy(0, 0);
         Check.due("P26 a true copy", y.page(3, 1), 0);
         Check.due("P26 true", y.whence(0, 0), 0);
+        whenceByImages();
+    }
+
+    private static void whenceByImages() {
+        DimBooks x = Check.open("line 1 0;reader copyist 9;reader copyist 9;error 100;");
+        x.keep(0);
+        x.copy(0, 0);
+        x.keep(1);
+        x.goBack(0);
+        Check.due("P26 nowhere yet", x.whence(0, 2), 0);
+        x.copy(1, 0);
+        Check.due("P26 the other's now", x.whence(0, 2), 2);
+        x.goBack(1);
+        Check.due("P26 the one's again", x.whence(0, 2), 1);
     }
 
     private static void span() {

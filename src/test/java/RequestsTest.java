@@ -142,6 +142,11 @@ public final class RequestsTest {
         w.request(1, 0, 2);
         w.request(1, 0, 3);
         Check.due("P21 the order of readings", w.best(0, 0), 5);
+        DimBooks u = Check.open("line 0 7;reader silent 1;");
+        u.request(0, 0, 5);
+        u.request(0, 0, 5);
+        u.request(0, 0, 1);
+        Check.due("P21 fewer, but worth less", u.best(0, 0), 3);
         DimBooks v = Check.open("line 10 8;reader silent 9;");
         v.request(0, 0, 10);
         Check.due("P21 worth against a page that is lost later", v.best(9, 0), 0);
@@ -150,6 +155,7 @@ public final class RequestsTest {
         v.request(0, 0, 11);
         Check.due("P21 worth more than the page", v.best(9, 0), 1);
         Check.due("P21 it is lost then", v.best(9, 2), 1);
+        Check.due("P21 but not before", v.best(8, 2), 0);
     }
 
     private static void bestByDusks() {
