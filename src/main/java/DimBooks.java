@@ -286,19 +286,15 @@ public final class DimBooks {
         if (h < 0 || h > 200 || what < 0 || what > 2) {
             return OUTSIDE;
         }
-        choose(h);
+        // Readings of one line touch nothing of another, so the best set is made up line by line.
+        choice.clear();
+        for (int l = 0; l < lib.lines; l++) {
+            chooseFor(l, h);
+        }
         switch (what) {
             case 0: return choice.set;
             case 1: return choice.sum;
             default: return choice.lost;
-        }
-    }
-
-    /** Readings of one line touch nothing of another, so the best set is made up line by line. */
-    private void choose(int h) {
-        choice.clear();
-        for (int l = 0; l < lib.lines; l++) {
-            chooseFor(l, h);
         }
     }
 
@@ -431,7 +427,7 @@ public final class DimBooks {
         if (variant < 0 || variant > VARIANT_MOST) {
             return OUTSIDE;
         }
-        return variant == 0 ? 0 : now.firstWriter(l, variant);
+        return now.firstWriter(l, variant);
     }
 
     public int span(int n, int k, int what) {
@@ -975,7 +971,7 @@ public final class DimBooks {
         }
 
         private boolean isLeft(int p, int l) {
-            return lineOf[p] == l && !isGone(p);
+            return lineOf[p] == l && shadeOf[p] < GONE;
         }
 
         int pagesLeft(int l) {
@@ -1088,6 +1084,7 @@ public final class DimBooks {
             return false;
         }
 
+        /** A set of one, or empty: the true variant stood on the line's own page first, which nobody wrote. */
         int firstWriter(int l, int variant) {
             for (int p = 0; p < pages; p++) {
                 if (lineOf[p] == l && variantOf[p] == variant) {

@@ -212,6 +212,14 @@ public final class LibraryTest {
         }
         Check.due("P3 kept", x.told(9), 2);
         Check.due("P3 nobody brought an error in", x.whence(1, 2), 0);
+
+        DimBooks y = Check.open("line 1 0;reader copyist 9;reader thief 9;error 0;");
+        y.copy(0, 0);
+        y.read(1, 1);
+        Check.feed(y, "line 1 0;reader copyist 9;reader thief 9;error 0;");
+        y.library();
+        Check.due("P3 a copy in the second library", y.copy(0, 0), 1);
+        Check.due("P12 its shade", y.page(1, 2), 0);
     }
 
     /** The byte of the latest fault is the one thing that a faulty text may change. */
