@@ -19,6 +19,7 @@ public final class DimBooks {
     private static final int MILLION = 1000000;
     private static final int BILLION = 1000000000;
     private static final int ERROR_UNTOLD = 10;
+    private static final int SEED_MOST = 2147483647;
 
     private static final int SILENT = 0;
     private static final int ALOUD = 1;
@@ -911,7 +912,7 @@ public final class DimBooks {
 
         private int draw(int n) {
             // The product may wrap: what is left over by 2 to the 31 is in the low bits.
-            seed = (seed * 1103515245 + 12345) & Integer.MAX_VALUE;
+            seed = (seed * 1103515245 + 12345) & SEED_MOST;
             return n > 0 ? seed / 65536 % n : 0;
         }
 

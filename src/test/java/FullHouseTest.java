@@ -6,7 +6,6 @@ public final class FullHouseTest {
     public static void main(String[] args) {
         texts();
         house();
-        anyNumbers();
         Check.finish("FullHouseTest");
     }
 
@@ -78,61 +77,5 @@ public final class FullHouseTest {
         Check.due("P27 the same in a span", x.span(100, 1, 0), kept);
         Check.due("P27 of twenty", x.span(100, 20, 1) >= kept ? 1 : 0, 1);
         Check.due("P33 as it was", x.told(9), 16);
-    }
-
-    /** No call throws, whatever is asked of an empty object or a full one. */
-    private static void anyNumbers() {
-        int[] odd = {Integer.MIN_VALUE, -1, 0, 1, 7, 8, 15, 16, 39, 40, 99, 100, 9999, Integer.MAX_VALUE};
-        for (DimBooks x : new DimBooks[] {new DimBooks(), full()}) {
-            for (int a : odd) {
-                for (int b : odd) {
-                    x.keep(1);
-                    two(x, a, b);
-                    for (int c : odd) {
-                        three(x, a, b, c);
-                    }
-                    x.goBack(1);
-                }
-                one(x, a);
-            }
-            Check.due("P1 it still stands", x.told(0) % 16, 0);
-        }
-    }
-
-    private static void one(DimBooks x, int a) {
-        x.told(a);
-        x.dusk(a);
-        x.run(a);
-        x.where(a);
-        x.grant(a);
-        x.right(a);
-        x.note(a);
-        x.seed(a);
-        x.keep(a);
-        x.goBack(a);
-        x.judge();
-    }
-
-    private static void two(DimBooks x, int a, int b) {
-        x.feed(a, b);
-        x.line(a, b);
-        x.reader(a, b);
-        x.page(a, b);
-        x.reading(a, b);
-        x.read(a, b);
-        x.copy(a, b);
-        x.write(a, b);
-        x.best(a, b);
-        x.toKnow(a, b);
-        x.whence(a, b);
-    }
-
-    private static void three(DimBooks x, int a, int b, int c) {
-        x.knows(a, b, c);
-        x.teach(a, b, c);
-        x.request(a, b, c);
-        x.life(a, b, c);
-        x.claim(a, b, c);
-        x.span(a, b, c);
     }
 }
