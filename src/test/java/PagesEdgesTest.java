@@ -301,25 +301,37 @@ public final class PagesEdgesTest {
 
     /** 'READINGS .. are written down, the first 300: DAY, PAGE, READER'. */
     private static void first300Readings() {
-        Run x = Run.of("line 1 0;".repeat(16) + "reader copyist 99;reader silent 99;error 0;");
-        int[] shade = new int[40];
-        for (int p = 16; p < 40; p++) {
-            x.does("copy(0, " + (p - 16) % 16 + ")");
-            shade[(p - 16) % 16]++;
-        }
-        int readings = 24;
-        for (int p = 0; readings < 299; p++) {
-            for (; shade[p] < 9 && readings < 299; shade[p]++) {
-                x.does("read(1, " + p + ")");
-                readings++;
-            }
-        }
+        Run x = readingsOf(299, 40);
         x.due("told(4)", 299).due("reading(299, 0)", Check.NONE).does("dusk(2)").due("page(39, 2)", 0).due("page(39, 3)", 0);
         x.does("read(0, 39)").due("told(4)", 300).due("reading(299, 0)", 2).due("reading(299, 1)", 39).due("reading(299, 2)", 0);
         x.due("claim(7, 0, 2)", 0).does("dusk(1)");
         // The 301st is done, but not written down.
         x.due("read(0, 39)", 2).due("told(4)", 300).due("reading(300, 0)", Check.NONE).due("reading(299, 0)", 2).due("page(39, 3)", 1);
         x.due("page(39, 2)", 2).due("knows(0, 7, 1)", 3).due("claim(7, 0, 3)", 1);
+        // So it is with the 301st by copying, by granting and in days by draws.
+        Run y = readingsOf(300, 39).does("dusk(1)", "request(1, 6, 5)").due("told(4)", 300).due("page(38, 2)", 0);
+        y.twin().due("copy(0, 38)", 39).due("told(4)", 300).due("page(38, 2)", 1).due("page(38, 3)", 0).due("claim(6, 0, 1)", 1);
+        y.twin().due("grant(1)", 5).due("told(4)", 300).due("page(38, 2)", 1).due("page(38, 3)", 0).due("knows(1, 6, 1)", 1);
+        y.twin().does("run(9)").due("told(4)", 300).due("reading(299, 0)", 0);
+    }
+
+    /** So many readings today, in a library of so many pages; the last pages are not read. */
+    private static Run readingsOf(int readings, int pages) {
+        Run x = Run.of("line 1 0;".repeat(16) + "reader copyist 99;reader silent 99;error 0;");
+        int[] shade = new int[pages];
+        int made = 0;
+        for (int p = 16; p < pages; p++) {
+            x.does("copy(0, " + (p - 16) % 16 + ")");
+            shade[(p - 16) % 16]++;
+            made++;
+        }
+        for (int p = 0; made < readings; p++) {
+            for (; shade[p] < 9 && made < readings; shade[p]++) {
+                x.does("read(1, " + p + ")");
+                made++;
+            }
+        }
+        return x;
     }
 
     /** 'READINGS (copying too)'; writing and teaching are none. */
