@@ -864,8 +864,8 @@ public final class DimBooks {
 
         /** Days only go on, so what is forgotten need not be struck out: it is too old from then on. */
         private int variantAt(int r, int l, int then) {
-            boolean fresh = then - dayLearnt(r, l) < lib.terms[r];
-            return fresh ? variantHeld[heart(r, l)] : NONE;
+            int h = heart(r, l);
+            return then - daySince[h] < lib.terms[r] ? variantHeld[h] : NONE;
         }
 
         int variantKnown(int r, int l) {

@@ -20,10 +20,15 @@ final class Check {
         }
     }
 
+    /** As README.md tells it, word by word. */
     static void feed(DimBooks x, String text) {
         for (int i = 0; i < text.length(); i += 8) {
-            String part = text.substring(i, Math.min(text.length(), i + 8));
-            x.feed(part.length(), pack(part));
+            int n = Math.min(8, text.length() - i);
+            long bytes = 0;
+            for (int k = 0; k < n; k++) {
+                bytes = bytes << 8 | text.charAt(i + k) & 255;
+            }
+            x.feed(n, bytes);
         }
     }
 
